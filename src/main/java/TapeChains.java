@@ -74,9 +74,6 @@ public final class TapeChains {
         if (k < 0) {
             throw new IllegalArgumentException("a chain is counted from 0");
         }
-        if (k >= depths[dump]) {
-            return NONE;
-        }
         int link = dump;
         for (int step = 0; step < k && link != NONE; step++) {
             link = bases[link];

@@ -10,11 +10,13 @@ public final class LongRunsTest {
     private static final int[] WRONG = {Integer.MIN_VALUE, -1, 64, 300, 1001, Integer.MAX_VALUE};
 
     private static final Answers A = new Answers();
+    private static int fullest = 0;
 
     public static void main(String[] args) {
         for (int run = 0; run < RUNS; run++) {
             new LongRunsTest(run).run();
         }
+        A.due("most dumps at the end of a run", fullest, 300);
         A.end();
     }
 
@@ -22,24 +24,32 @@ public final class LongRunsTest {
     private final Random choice;
     private final TapeChains x = new TapeChains();
     private final PlainTapes plain = new PlainTapes();
+    // Such a run hardly does anything but add dumps, so that 300 of them are reached.
+    private final boolean filling;
     private int size = 100;
 
     private LongRunsTest(int number) {
         this.number = number;
         this.choice = new Random(number);
+        this.filling = number % 3 == 0;
     }
 
     private void run() {
-        // Some runs only write, so that 300 dumps or 64 volumes are reached.
-        int writing = choice.nextInt(4) * 25 + 10;
-        begin(SIZES[number % SIZES.length]);
-        for (int call = 1; call < CALLS; call++) {
+        int writing = filling ? 95 : choice.nextInt(3) * 25 + 10;
+        int call = 0;
+        // Some runs begin with nothing, so that a new object is looked at too.
+        if (number % 5 != 0) {
+            begin(SIZES[number % SIZES.length]);
+            call++;
+        }
+        for (; call < CALLS; call++) {
             if (choice.nextInt(100) < writing) {
                 write();
             } else {
                 ask();
             }
         }
+        fullest = Math.max(fullest, plain.count(0));
     }
 
     private void same(String call, Supplier<Object> got, Supplier<Object> want) {
@@ -85,11 +95,11 @@ public final class LongRunsTest {
     }
 
     private void write() {
-        int kind = choice.nextInt(200);
+        int kind = choice.nextInt(200) + (filling ? 10 : 0);
         if (kind == 0) {
             begin(choice.nextBoolean() ? below(1) : SIZES[choice.nextInt(SIZES.length)]);
         } else if (kind < 12) {
-            drop(choice.nextInt(4) == 0 ? someDump() : below(3));
+            drop(!filling && choice.nextInt(4) == 0 ? someDump() : below(3));
         } else if (kind < 40) {
             int volume = choice.nextBoolean() ? below(64) : below(Math.max(1, plain.count(1)));
             boolean lost = choice.nextBoolean();
